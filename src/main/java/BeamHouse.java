@@ -524,7 +524,6 @@ public final class BeamHouse {
         private boolean closes() {
             boolean whole = !escaped && isChecked();
             open = false;
-            escaped = false;
             if (whole) {
                 frames++;
             } else {

@@ -179,6 +179,24 @@ public final class CreditTest {
         state("room for two", peer.x, 1, 24, 1, credit - 2, 0);
         peer.frame(1 | 7 << 5);
         state("room for all", peer.x, 1, 20, 0, credit - 3, 0);
+        fullAndOwed();
+    }
+
+    /** The room that a frame's NEXT makes is used before its data goes up: so the data is let. */
+    private static void fullAndOwed() {
+        Peer peer = new Peer(7);
+        for (int i = 0; i < 24; i++) {
+            fill(peer, i);
+        }
+        for (int i = 0; i < 4; i++) {
+            peer.data(false, 0, 131, 0, 3);
+        }
+        BENCH.due("none is let", peer.x.of(1, 9), 4);
+        peer.goon();
+        Bench.sent(peer.x, 1);
+        peer.next = 1;
+        peer.data(false, 128, 131);
+        BENCH.due("a part told four", peer.x.of(1, 9) * 100 + peer.x.of(1, 6), 124);
     }
 
     private static void longRows() {

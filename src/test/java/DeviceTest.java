@@ -58,6 +58,10 @@ public final class DeviceTest {
                 }
             }
         }
+        BeamHouse y = new BeamHouse();
+        for (int d = 0; d < 4; d++) {
+            BENCH.due("link drawn from the first seed", y.call(d, 9, 1), (d * 1103515245L + 12345 >> 16) % 126 + 1);
+        }
         BeamHouse x = new BeamHouse();
         x.device(0, 1, 1);
         BENCH.due("link drawn from 1", x.call(0, 2, 1), 81);

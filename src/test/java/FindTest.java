@@ -54,6 +54,9 @@ public final class FindTest {
         BENCH.due("the last find", Bench.air(x, 0), "255 63 4 3 2 1 " + slots + " 255");
         BENCH.due("an idle one's tick", x.tick(0), 0);
         BENCH.due("sends nothing", Bench.air(x, 0), "");
+        BENCH.due("asking again", x.discover(0, 8), 1);
+        x.tick(0);
+        BENCH.due("begins at slot 0", Bench.air(x, 0), "255 63 4 3 2 1 8 0");
     }
 
     /** All others hear each find; each answers at the slot that it drew, and is listed then. */
@@ -135,6 +138,9 @@ public final class FindTest {
         BENCH.due("another asker", Bench.air(x, 1), "");
         Bench.hearFrame(x, 1, find(5, 16, slot));
         BENCH.due("its own address", Bench.air(x, 1), "");
+        BENCH.due("slot 6", slot, 6);
+        Bench.hearFrame(x, 1, find(7, 6, slot));
+        BENCH.due("six slots have no slot 6", Bench.air(x, 1), "");
         Bench.hearFrame(x, 1, find(7, 16, slot));
         BENCH.due("its asker", Bench.air(x, 1), here(5, 7, slot));
         Bench.hearFrame(x, 1, find(8, 6, 255));

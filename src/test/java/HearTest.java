@@ -170,6 +170,12 @@ public final class HearTest {
         nothing("another kind", new int[] {11, 29});
         nothing("another kind", new int[] {11, 19});
         nothing("another kind", new int[] {11, 123});
+        BeamHouse x = new BeamHouse();
+        Bench.hearFrame(x, 0, change(call, 10, 126));
+        BENCH.due("CALL of link 126", x.of(0, 2), 126);
+        BeamHouse y = new BeamHouse();
+        Bench.hearFrame(y, 0, change(call, 11, 7));
+        BENCH.due("CALL with window 7", y.of(0, 3), 7);
         refused("END", 11, 83);
         refused("GOON", 11, 17);
         refused("AGAIN", 11, 25);

@@ -20,6 +20,8 @@ public final class LinkTest {
         endRefused();
         endAgain();
         noForFirst();
+        linkedAnew();
+        secondAnew();
         BENCH.ends();
     }
 
@@ -249,6 +251,9 @@ public final class LinkTest {
         Bench.sent(peer.x, 1);
         peer.frame(17 | 3 << 5);
         BENCH.due("two were sent, not three", peer.takes() + peer.x.of(1, 6), "2");
+        peer.frame(1 | 1 << 5);
+        peer.frame(17 | 3 << 5);
+        BENCH.due("one of two is there: not two more", peer.takes() + peer.x.of(1, 6), "1");
         peer.frame(17 | 2 << 5);
         BENCH.due("two were sent", peer.takes() + peer.x.of(1, 6), "10 170");
         peer.frame(17 | 1 << 5);
@@ -321,6 +326,10 @@ public final class LinkTest {
         for (int k = 1; k < 40; k++) {
             BENCH.due("tick " + k, peer.x.tick(1), 4);
         }
+        peer.frame(1);
+        for (int k = 1; k < 40; k++) {
+            BENCH.due("without turn, too: tick " + k, peer.x.tick(1), 4);
+        }
         Bench.hearFrame(peer.x, 1, 13, 17);
         BENCH.due("another link's frame does not count", peer.x.tick(1), 0);
         BENCH.due("nothing is sent", peer.takes(), "");
@@ -391,6 +400,69 @@ public final class LinkTest {
         Bench.hearFrame(y, 0, 2, 17);
         y.tick(0);
         BENCH.due("with the turn: END", Bench.air(y, 0), "3 83");
+    }
+
+    /** Nothing of a link goes on in the next one. */
+    private static void linkedAnew() {
+        BeamHouse x = Bench.linked(2);
+        x.store(0, 97, 1, 60, 0, 0);
+        x.put(0, 97, 1);
+        x.tick(0);
+        x.end(0);
+        Bench.hearFrame(x, 0, 2, 6, 128, 1);
+        Bench.hearFrame(x, 0, 2, 31);
+        BENCH.due("idle", x.of(0, 0), 0);
+        Bench.air(x, 0);
+        x.take(1);
+        Bench.hearFrame(x, 1, 3, 83);
+        x.take(1);
+        int link = x.call(0, 2, 2);
+        x.talk(0, 1, 1);
+        BENCH.due("first again", x.of(0, 0), 3);
+        Bench.hearFrame(x, 0, link * 2, 115);
+        BENCH.due("no END was sent", x.of(0, 0), 3);
+        Bench.hearFrame(x, 0, link * 2, 17 | 1 << 5);
+        x.tick(0);
+        BENCH.due("nothing was missed, none is wished", Bench.air(x, 0), link * 2 + 1 + " 17");
+        x.end(0);
+        Bench.hearFrame(x, 0, link * 2, 17);
+        x.tick(0);
+        Bench.hearFrame(x, 0, link * 2, 115);
+        Bench.air(x, 0);
+        link = x.call(0, 2, 2);
+        Bench.hearFrame(x, 0, link * 2, 115, 2, 0, 0, 0, 1, 0, 0, 0, 2);
+        Bench.hearFrame(x, 0, link * 2, 115);
+        BENCH.due("no END was sent in this link", x.of(0, 0), 3);
+    }
+
+    private static void secondAnew() {
+        Peer peer = new Peer(7);
+        peer.x.store(1, 97, 1, 60, 0, 0);
+        peer.x.put(1, 97, 1);
+        for (int i = 0; i < 3; i++) {
+            peer.data(false, 0, 131, 0, 3);
+        }
+        BENCH.due("a row waits", peer.x.of(1, 7), 1);
+        int[] part = new int[32];
+        part[0] = 128;
+        peer.data(false, part);
+        peer.frame(83);
+        Bench.sent(peer.x, 1);
+        int[] call = {255, 147, 9, 0, 0, 0, 2, 0, 0, 0, 5, 7};
+        Bench.hearFrame(peer.x, 1, call);
+        Bench.sent(peer.x, 1);
+        Bench.hearFrame(peer.x, 1, call);
+        BENCH.due("no data was taken in this link", Bench.sent(peer.x, 1).size(), 1);
+        BENCH.due("no rows, no parts", peer.x.of(1, 6) + peer.x.of(1, 7), 0);
+        BENCH.due("credit, owed", peer.x.of(1, 8) * 10 + peer.x.of(1, 9), 40);
+        peer.number = 0;
+        peer.next = 0;
+        peer.data(true, 0, 131, 0, 3);
+        BENCH.due("half a row is gone", peer.takes(), "10 " + (16 | 1 << 5) + " 1 192 0 3");
+        peer.x.put(1, 97, 1);
+        peer.goon();
+        java.util.List<int[]> frames = Bench.sent(peer.x, 1);
+        BENCH.due("a row from its first byte", frames.get(0)[3] * 1000 + frames.get(0)[2], 2128);
     }
 
     private static void noForFirst() {

@@ -234,6 +234,9 @@ public final class ObjectTest {
         BENCH.due("of two the last one", peer.asks(130, 0, 11, 73, 0, 4, 8, 73, 0, 4, 9), "160 0 3");
         BENCH.due("so it is", peer.x.size(1, 98, 1), 2);
         BENCH.due("so it is", peer.x.octet(1, 98, 1, 0) * 10 + peer.x.octet(1, 98, 1, 1), 49);
+        BENCH.due("2 without BODY", peer.asks(2, 0, 7, 1, 0, 4, 102), "144 0 3");
+        BENCH.due("130 without LAST", peer.asks(130, 0, 3), "160 0 3");
+        BENCH.due("has no bytes", peer.x.size(1, 102, 1), 0);
         peer.asks(130, 0, 14, 1, 0, 4, 100, 1, 0, 4, 101, 73, 0, 3);
         BENCH.due("of two NAMES the last one", peer.x.size(1, 101, 1) * 10 + peer.x.size(1, 100, 1), -1);
     }
@@ -468,5 +471,8 @@ public final class ObjectTest {
         x.store(1, 97, 1, 50, 3, 0);
         Bench.go(x, 4);
         BENCH.due("get", x.size(0, 97, 1) * 10 + x.octet(0, 97, 1, 119), 1201);
+        x.put(0, 97, 1);
+        Bench.go(x, 5);
+        BENCH.due("put behind get", x.size(1, 97, 1) * 1000 + x.of(0, 14), 120160);
     }
 }

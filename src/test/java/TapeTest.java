@@ -7,6 +7,7 @@ public final class TapeTest {
         bends();
         takes();
         takesInParts();
+        airIsFull();
         checks();
         BENCH.ends();
     }
@@ -99,6 +100,28 @@ public final class TapeTest {
         }
         BENCH.due("all", at, 3996);
         BENCH.due("nothing more", x.take(1), 0);
+    }
+
+    /** NO of link 10 has a byte that is escaped: with 4 of 7 bytes and 662 of 6 the air is full to the last. */
+    private static void airIsFull() {
+        BeamHouse x = new BeamHouse();
+        BENCH.due("a NO with an escaped byte", Bench.wrap(20, 31).length, 7);
+        for (int i = 0; i < 4; i++) {
+            Bench.hearFrame(x, 1, 21, 17);
+        }
+        int[] goon = Bench.wrap(25, 17);
+        Bench.lay(x, goon);
+        for (int i = 1; i <= 661; i++) {
+            x.hear(1, 0, goon.length);
+        }
+        BENCH.due("room for one more", x.of(1, 10), 3994);
+        Bench.hearFrame(x, 1, 21, 17);
+        BENCH.due("but not for a longer one", x.of(1, 10), 3994);
+        Bench.hear(x, 1, goon);
+        BENCH.due("full", x.of(1, 10), 4000);
+        Bench.hear(x, 1, goon);
+        BENCH.due("no more", x.of(1, 10), 4000);
+        BENCH.due("all are whole", Bench.sent(x, 1).size(), 666);
     }
 
     private static void checks() {
