@@ -1001,7 +1001,9 @@ public final class BeamHouse {
             if (k >= STORE_MOST) {
                 return null;
             }
-            count = Math.max(count, k + 1);
+            if (k == count) {
+                count++;
+            }
             return things[k];
         }
 

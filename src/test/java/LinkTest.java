@@ -422,6 +422,7 @@ public final class LinkTest {
         Bench.hearFrame(x, 0, link * 2, 115);
         BENCH.due("no END was sent", x.of(0, 0), 3);
         Bench.hearFrame(x, 0, link * 2, 17 | 1 << 5);
+        BENCH.due("nothing was sent in this link", x.of(0, 4), 0);
         x.tick(0);
         BENCH.due("nothing was missed, none is wished", Bench.air(x, 0), link * 2 + 1 + " 17");
         x.end(0);
@@ -438,11 +439,11 @@ public final class LinkTest {
     private static void secondAnew() {
         Peer peer = new Peer(7);
         peer.x.store(1, 97, 1, 60, 0, 0);
-        peer.x.put(1, 97, 1);
         for (int i = 0; i < 3; i++) {
             peer.data(false, 0, 131, 0, 3);
         }
-        BENCH.due("a row waits", peer.x.of(1, 7), 1);
+        peer.x.put(1, 97, 1);
+        BENCH.due("half of a row waits", peer.x.of(1, 7), 1);
         int[] part = new int[32];
         part[0] = 128;
         peer.data(false, part);
@@ -457,8 +458,8 @@ public final class LinkTest {
         BENCH.due("credit, owed", peer.x.of(1, 8) * 10 + peer.x.of(1, 9), 40);
         peer.number = 0;
         peer.next = 0;
-        peer.data(true, 0, 131, 0, 3);
-        BENCH.due("half a row is gone", peer.takes(), "10 " + (16 | 1 << 5) + " 1 192 0 3");
+        peer.data(true, 0, 131, 0, 7, 1, 0, 4, 98);
+        BENCH.due("half a row is gone", peer.takes(), "10 " + (16 | 1 << 5) + " 1 196 0 3");
         peer.x.put(1, 97, 1);
         peer.goon();
         java.util.List<int[]> frames = Bench.sent(peer.x, 1);
