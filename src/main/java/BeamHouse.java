@@ -666,6 +666,7 @@ public final class BeamHouse {
         boolean hasMissed;
         boolean endWished;
         boolean endSent;
+        boolean endIsLatest;
 
         void begins(int ofNumber, int withWindow, int withOther) {
             clears();
@@ -688,6 +689,7 @@ public final class BeamHouse {
             hasMissed = false;
             endWished = false;
             endSent = false;
+            endIsLatest = false;
         }
 
         /** False if next lies behind what was sent: then the frame that told it must not count. */
@@ -727,7 +729,16 @@ public final class BeamHouse {
                 sendsBare(air, head, hasMissed ? AGAIN : GOON);
             }
             sent = n;
+            endIsLatest = false;
             givesTurn();
+        }
+
+        /** A YES counts whatever is sent behind the END; END again is only for one that sent nothing since. */
+        void sendsEnd(Air air, int head) {
+            air.begins(head, END);
+            air.closes();
+            endSent = true;
+            endIsLatest = true;
         }
 
         void sendsBare(Air air, int head, int kind) {
@@ -1252,9 +1263,8 @@ public final class BeamHouse {
         private void ticksFirst() {
             if (link.hasTurn) {
                 if (link.endWished && link.parts.count == 0) {
-                    link.endSent = true;
+                    link.sendsEnd(air, ownHead());
                     link.givesTurn();
-                    sendsBare(END);
                 } else {
                     link.usesTurn(air, ownHead());
                 }
@@ -1264,8 +1274,8 @@ public final class BeamHouse {
             if (link.ticks >= POLLED_TICKS) {
                 becomesIdle();
             } else if (link.ticks % POLL_TICKS == 0) {
-                if (link.endSent) {
-                    sendsBare(END);
+                if (link.endIsLatest) {
+                    link.sendsEnd(air, ownHead());
                 } else {
                     link.sendsBare(air, ownHead(), GOON);
                 }
@@ -1285,11 +1295,6 @@ public final class BeamHouse {
 
         private boolean isFromOther() {
             return isLinked() && ear.bytes[0] == (ownHead() ^ 1);
-        }
-
-        private void sendsBare(int kind) {
-            air.begins(ownHead(), kind);
-            air.closes();
         }
 
         private void hearsNamed(int kind, int n) {
@@ -1386,7 +1391,8 @@ public final class BeamHouse {
             if (!isLinked()) {
                 refuses();
             } else if (state == SECOND && isFromOther()) {
-                sendsBare(YES);
+                air.begins(ownHead(), YES);
+                air.closes();
                 becomesIdle();
             }
         }

@@ -19,6 +19,11 @@ public final class LinkTest {
         ends();
         endRefused();
         endAgain();
+        endInItsTurnAgain();
+        partBehindEnd();
+        dataBehindEnd();
+        dataThereWithoutTurn();
+        yesBehindData();
         noForFirst();
         linkedAnew();
         secondAnew();
@@ -400,6 +405,89 @@ public final class LinkTest {
         Bench.hearFrame(y, 0, 2, 17);
         y.tick(0);
         BENCH.due("with the turn: END", Bench.air(y, 0), "3 83");
+    }
+
+    private static BeamHouse endSent() {
+        BeamHouse x = Bench.linked(2);
+        x.store(0, 97, 1, 0, 0, 0);
+        x.end(0);
+        x.tick(0);
+        BENCH.due("END", Bench.air(x, 0), "3 83");
+        return x;
+    }
+
+    /** END, then the turn again with a part that waits: DATA is the latest that it sent. */
+    private static BeamHouse dataSentSince() {
+        BeamHouse x = endSent();
+        Bench.hearFrame(x, 0, 2, 17);
+        x.put(0, 97, 1);
+        x.tick(0);
+        BENCH.due("a part waits: DATA, not END", Bench.air(x, 0), "3 16 0 130 0 10 1 0 4 97 73 0 3");
+        return x;
+    }
+
+    /** Of each tick from the first one since it sent, up to the 17th, what is due; with the 18th it is idle. */
+    private static void pollsAre(String what, BeamHouse x, String poll) {
+        for (int k = 1; k <= 17; k++) {
+            BENCH.due(what + ": state at tick " + k, x.tick(0), 3);
+            BENCH.due(what + ": tick " + k, Bench.air(x, 0), k % 3 == 0 ? poll : "");
+        }
+        BENCH.due(what + ": the sixth time", x.tick(0), 0);
+        BENCH.due(what + ": then nothing", Bench.air(x, 0), "");
+    }
+
+    private static void endInItsTurnAgain() {
+        BeamHouse x = endSent();
+        x.tick(0);
+        x.tick(0);
+        Bench.hearFrame(x, 0, 2, 17);
+        x.tick(0);
+        BENCH.due("no part waits: END", Bench.air(x, 0), "3 83");
+        pollsAre("END in its turn again", x, "3 83");
+    }
+
+    /** What waits does not matter without the turn: END is what it sent. */
+    private static void partBehindEnd() {
+        BeamHouse x = endSent();
+        x.put(0, 97, 1);
+        BENCH.due("a part waits", x.of(0, 6), 1);
+        pollsAre("a part waits, END is what it sent", x, "3 83");
+    }
+
+    private static void dataBehindEnd() {
+        pollsAre("DATA is what it sent", dataSentSince(), "3 17");
+        BeamHouse x = dataSentSince();
+        Bench.hearFrame(x, 0, 2, 17 | 1 << 5);
+        x.tick(0);
+        BENCH.due("it is there: END, still wished", Bench.air(x, 0), "3 83");
+        pollsAre("END behind DATA", x, "3 83");
+        BeamHouse y = dataSentSince();
+        Bench.hearFrame(y, 0, 2, 17);
+        y.tick(0);
+        BENCH.due("it is not there: DATA again", Bench.sent(y, 0).get(0)[1], 16);
+        pollsAre("DATA again is what it sent", y, "3 17");
+    }
+
+    private static void dataThereWithoutTurn() {
+        BeamHouse x = dataSentSince();
+        Bench.hearFrame(x, 0, 2, 1 | 1 << 5);
+        BENCH.due("no part waits", x.of(0, 6), 0);
+        pollsAre("no part waits, DATA is what it sent", x, "3 17");
+        BeamHouse y = dataSentSince();
+        Bench.hearFrame(y, 0, 2, 0, 1, 160, 0, 3);
+        BENCH.due("put", y.of(0, 14), 160);
+        y.tick(0);
+        y.tick(0);
+        y.tick(0);
+        BENCH.due("GOON with its NEXT", Bench.air(y, 0), "3 " + (17 | 1 << 5));
+    }
+
+    /** It sent END in this link, whatever it sent since. */
+    private static void yesBehindData() {
+        BeamHouse x = dataSentSince();
+        Bench.hearFrame(x, 0, 2, 115);
+        BENCH.due("YES for one that sent END", x.of(0, 0), 0);
+        BENCH.due("lost on its way", x.of(0, 14), 0);
     }
 
     /** Nothing of a link goes on in the next one. */
