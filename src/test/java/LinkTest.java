@@ -1,574 +1,387 @@
-/** Promises 11 (call), 12 (end), and the ticks (8) and turns of links. */
+/** LINKS and the TURN: numbers, windows, what is known to be there, what is missed. */
 public final class LinkTest {
     private static final Bench BENCH = new Bench("LinkTest");
+    private static final int[] ASKED = {2, 131, 0, 3};
 
     public static void main(String[] args) {
-        arguments();
-        calling();
-        yesForCalling();
-        calledAgain();
-        calledByAnother();
-        windows();
-        numbers();
-        missed();
-        knownToBeThere();
-        farNext();
-        otherLinks();
-        polls();
-        secondWaits();
-        ends();
-        endRefused();
-        endAgain();
-        endInItsTurnAgain();
-        partBehindEnd();
-        dataBehindEnd();
-        dataThereWithoutTurn();
-        yesBehindData();
-        noForFirst();
-        linkedAnew();
-        secondAnew();
+        numbersAtFirst();
+        ofAnotherLink();
+        knownUpToNext();
+        knownOfFirst();
+        nothingOfTheFrame();
+        whatWasSentLast();
+        takesItsNumber();
+        takes1To32Bytes();
+        takenGoesRound();
+        hasTheTurn();
+        turnOfSecond();
+        turnOfFirst();
+        asManyAsTheWindow();
+        againIfMissed();
+        againOfFirst();
+        missedSinceItsLatestTurn();
+        nextIsTaken();
+        beginsAnew();
         BENCH.ends();
     }
 
-    private static void arguments() {
-        BeamHouse x = new BeamHouse();
-        BENCH.due("call(-1)", x.call(-1, 1, 0), -1);
-        BENCH.due("call(4)", x.call(4, 1, 1), -1);
-        BENCH.due("window 0", x.call(0, 1, 0), -3);
-        BENCH.due("window 8", x.call(0, 1, 8), -3);
-        BENCH.due("window -1", x.call(0, 1, -1), -3);
-        BENCH.due("nothing is sent", x.of(0, 10), 0);
-        BENCH.due("nothing is drawn", x.call(0, 1, 7), 1);
-        BENCH.due("not idle", x.call(0, 1, 0), -2);
-        x.discover(1, 1);
-        BENCH.due("asking", x.call(1, 1, 1), -2);
-        BENCH.due("end(-1)", x.end(-1), -1);
-        BENCH.due("end(4)", x.end(4), -1);
-        BENCH.due("end of an idle one", x.end(3), -2);
-        BENCH.due("end of a calling one", x.end(0), -2);
-        BENCH.due("end of an asking one", x.end(1), -2);
-        BeamHouse y = Bench.linked(1);
-        BENCH.due("end of a second one", y.end(1), -2);
-        BENCH.due("end of a first one", y.end(0), 1);
-        BENCH.due("end twice", y.end(0), 1);
-    }
-
-    private static void calling() {
-        BeamHouse x = new BeamHouse();
-        x.device(0, 300, 1);
-        BENCH.due("the link", x.call(0, -2, 4), 81);
-        String call = "255 147 44 1 0 0 254 255 255 255 81 4";
-        BENCH.due("a call", Bench.air(x, 0), call);
-        for (int i = 0; i < 3; i++) {
-            BENCH.due("tick", x.tick(0), 2);
-            BENCH.due("again", Bench.air(x, 0), call);
+    private static void numbersAtFirst() {
+        BENCH.sentence("SENT FROM (the number of the first part that is not known to be there; 0 at first), TAKEN (the number of the next DATA it takes; 0 at first)");
+        BeamHouse x = Bench.linked(3);
+        for (int d = 0; d < 2; d++) {
+            BENCH.due("sent from, taken, parts of " + d, x.of(d, 4) + x.of(d, 5) + x.of(d, 6), 0);
         }
-        BENCH.due("the fourth tick", x.tick(0), 0);
-        BENCH.due("nothing", Bench.air(x, 0), "");
-        BENCH.due("no link", x.of(0, 2), 0);
-        x.call(0, -2, 4);
-        BENCH.due("a new call has ticks anew", x.tick(0) + x.tick(0) + x.tick(0), 6);
-        BENCH.due("a new call has ticks anew", x.tick(0), 0);
+        x.store(0, 97, 1, 0, 0, 0);
+        x.put(0, 97, 1);
+        BENCH.due("a part that waits is not known", x.of(0, 4) * 10 + x.of(0, 6), 1);
+        x.tick(0);
+        BENCH.due("nor is one that is sent", x.of(0, 4) * 10 + x.of(0, 6), 1);
+        x.talk(0, 1, 1);
+        BENCH.due("sent from, taken of the first one", x.of(0, 4) * 10 + x.of(0, 5), 11);
+        BENCH.due("sent from, taken of the second one", x.of(1, 4) * 10 + x.of(1, 5), 1);
     }
 
-    private static void yesForCalling() {
-        int[] yes = {162, 115, 5, 0, 0, 0, 44, 1, 0, 0, 3};
-        BENCH.due("yes", stateBehind(yes, 0, 162), 3);
-        BENCH.due("yes of another link", stateBehind(yes, 0, 160), 2);
-        BENCH.due("yes with bit 0", stateBehind(yes, 0, 163), 2);
-        BENCH.due("yes of another one", stateBehind(yes, 2, 6), 2);
-        BENCH.due("yes of another one", stateBehind(yes, 5, 1), 2);
-        BENCH.due("yes for another one", stateBehind(yes, 6, 45), 2);
-        BENCH.due("yes with window 0", stateBehind(yes, 10, 0), 2);
-        BENCH.due("yes with window 8", stateBehind(yes, 10, 8), 2);
-        BENCH.due("yes with window 7", stateBehind(yes, 10, 7), 3);
-        BENCH.due("a shorter one", stateBehind(java.util.Arrays.copyOf(yes, 10), 0, 162), 2);
-        BENCH.due("a longer one", stateBehind(java.util.Arrays.copyOf(yes, 12), 0, 162), 2);
-        BENCH.due("an empty one", stateBehind(java.util.Arrays.copyOf(yes, 2), 0, 162), 2);
-        BENCH.due("NO", stateBehind(new int[] {162, 31}, 0, 162), 2);
-        BeamHouse x = calls();
-        Bench.hearFrame(x, 0, yes);
-        BENCH.due("its window is that of the yes", x.of(0, 3), 3);
-        BENCH.due("it has the turn", x.of(0, 15), 1);
-        BENCH.due("its credit", x.of(0, 8), 4);
-        yes[10] = 5;
-        Bench.hearFrame(x, 0, yes);
-        BENCH.due("another yes is nothing", x.of(0, 3), 3);
+    private static void ofAnotherLink() {
+        BENCH.sentence("FRAMES of another link, or with bit 0 of byte 0 as its own has it, are nothing.");
+        int[][] frames = {{0, 17}, {0, 25}, {0, 16, 0}, {0, 16}, {0, 83}, {0, 31}, {0, 115}};
+        for (int head = 0; head < 256; head++) {
+            Peer peer = new Peer(BENCH, 7);
+            BeamHouse x = Bench.linked(7);
+            x.end(0);
+            x.tick(0);
+            for (int[] frame : frames) {
+                if (head != 11) {
+                    Bench.hearFrame(peer.x, 1, Bench.change(frame, 0, head));
+                }
+                if (head != 2) {
+                    Bench.hearFrame(x, 0, Bench.change(frame, 0, head));
+                }
+            }
+            BENCH.due("second by head " + head, peer.x.of(1, 0) * 100 + peer.x.of(1, 5) * 10 + peer.x.of(1, 10), 400);
+            BENCH.due("first by head " + head, x.of(0, 0) * 100 + x.of(0, 5) * 10 + x.of(0, 15), 300);
+            peer.goon();
+            peer.due("nothing was missed", "10 17");
+        }
     }
 
-    private static BeamHouse calls() {
-        BeamHouse x = new BeamHouse();
-        x.device(0, 300, 1);
-        x.call(0, 5, 6);
-        Bench.air(x, 0);
-        return x;
-    }
-
-    private static int stateBehind(int[] frame, int i, int octet) {
-        BeamHouse x = calls();
-        int[] changed = frame.clone();
-        changed[i] = octet;
-        Bench.hearFrame(x, 0, changed);
-        return x.of(0, 0);
-    }
-
-    private static void calledAgain() {
-        BeamHouse x = new BeamHouse();
-        int[] call = {255, 147, 9, 0, 0, 0, 2, 0, 0, 0, 5, 3};
-        Bench.hearFrame(x, 1, call);
-        BENCH.due("yes", Bench.air(x, 1), "10 115 2 0 0 0 9 0 0 0 3");
-        BENCH.due("second", x.of(1, 0), 4);
-        BENCH.due("of the link", x.of(1, 2), 5);
-        BENCH.due("with the window", x.of(1, 3), 3);
-        Bench.hearFrame(x, 1, call);
-        BENCH.due("yes again", Bench.air(x, 1), "10 115 2 0 0 0 9 0 0 0 3");
-        Bench.hearFrame(x, 1, 11, 17);
-        Bench.air(x, 1);
-        Bench.hearFrame(x, 1, call);
-        BENCH.due("no data yet: yes again", Bench.air(x, 1), "10 115 2 0 0 0 9 0 0 0 3");
+    /** Device 1's numbers begin at from; eight parts wait then, and it has used a turn. */
+    private static Peer sending(int window, int from) {
+        Peer peer = new Peer(BENCH, window);
+        for (int i = 0; i < from; i++) {
+            peer.data(true, ASKED);
+            peer.takes();
+        }
         for (int i = 0; i < 8; i++) {
-            Bench.hearFrame(x, 1, 11, i << 1, 0);
-            Bench.hearFrame(x, 1, call);
-            BENCH.due("data was taken: nothing", Bench.air(x, 1), "");
+            peer.data(false, ASKED);
         }
-        BENCH.due("its number is round", x.of(1, 5), 0);
-        BENCH.due("still second", x.of(1, 0), 4);
+        BENCH.due("sent from, parts", peer.x.of(1, 4) * 10 + peer.x.of(1, 6), from * 10 + 8);
+        peer.goon();
+        peer.x.take(1);
+        return peer;
     }
 
-    private static void calledByAnother() {
-        BeamHouse x = new BeamHouse();
-        Bench.hearFrame(x, 1, 255, 147, 9, 0, 0, 0, 2, 0, 0, 0, 5, 3);
-        Bench.air(x, 1);
-        Bench.hearFrame(x, 1, 255, 147, 8, 0, 0, 0, 2, 0, 0, 0, 5, 3);
-        BENCH.due("another caller", Bench.air(x, 1), "");
-        Bench.hearFrame(x, 1, 255, 147, 9, 0, 0, 0, 2, 0, 0, 0, 6, 3);
-        BENCH.due("another link", Bench.air(x, 1), "");
-        BENCH.due("its link stays", x.of(1, 2), 5);
-        BeamHouse y = Bench.linked(2);
-        Bench.hearFrame(y, 0, 255, 147, 2, 0, 0, 0, 1, 0, 0, 0, 1, 3);
-        BENCH.due("a first one", Bench.air(y, 0), "");
-        y.discover(2, 6);
-        Bench.hearFrame(y, 2, 255, 147, 2, 0, 0, 0, 3, 0, 0, 0, 1, 3);
-        BENCH.due("an asking one", Bench.air(y, 2), "");
-        BeamHouse z = new BeamHouse();
-        z.call(0, 2, 1);
-        Bench.air(z, 0);
-        Bench.hearFrame(z, 0, 255, 147, 2, 0, 0, 0, 1, 0, 0, 0, 1, 3);
-        BENCH.due("a calling one", Bench.air(z, 0), "");
-    }
-
-    /** A put of 120 bytes has four credits' worth of parts at most: 2 of its first row. */
-    private static void windows() {
+    private static void knownUpToNext() {
+        BENCH.sentence("NEXT: parts from SENT FROM on, up to it, are known to be there (if NEXT is not farther on, modulo 8, than what was sent last");
         for (int window = 1; window <= 7; window++) {
-            Peer peer = new Peer(window);
-            peer.x.store(1, 97, 1, 120, 0, 0);
-            peer.x.put(1, 97, 1);
-            peer.data(false, 20);
-            for (int i = 0; i < 6; i++) {
-                peer.data(false, 0, 131, 0, 3);
+            for (int from : new int[] {0, 1, 5, 7}) {
+                for (int on = 0; on <= 7; on++) {
+                    Peer peer = sending(window, from);
+                    int next = from + on & 7;
+                    peer.frame((on % 2 == 0 ? 1 : 9) | next << 5);
+                    boolean counts = on <= window;
+                    String what = on + " on from " + from + " with window " + window;
+                    BENCH.due(what + ": sent from", peer.x.of(1, 4), counts ? next : from);
+                    BENCH.due(what + ": parts", peer.x.of(1, 6), counts ? 8 - on : 8);
+                }
             }
-            BENCH.due("parts", peer.x.of(1, 6), 8);
-            peer.goon();
-            java.util.List<int[]> frames = Bench.sent(peer.x, 1);
-            BENCH.due("as many as the window lets", frames.size(), window);
-            for (int i = 0; i < frames.size(); i++) {
-                int[] frame = frames.get(i);
-                BENCH.due("from the second one", frame[0], 10);
-                BENCH.due("numbers, the last one with turn", frame[1], i << 1 | (i == window - 1 ? 16 : 0) | 7 << 5);
-            }
-            peer.goon();
-            BENCH.due("not known: all again", Bench.told(Bench.sent(peer.x, 1)), Bench.told(frames));
-            peer.next = window - 1;
-            peer.goon();
-            BENCH.due("the last one again", Bench.sent(peer.x, 1).get(0)[1] >> 1 & 7, window - 1);
-            BENCH.due("sent from", peer.x.of(1, 4), window - 1);
-            BENCH.due("parts", peer.x.of(1, 6), 8 - window + 1);
         }
     }
 
-    private static void numbers() {
-        Peer peer = new Peer(7);
+    private static void knownOfFirst() {
+        BENCH.sentence("they go from what waits.");
+        for (int on = 0; on <= 7; on++) {
+            BeamHouse x = Bench.linked(7);
+            x.store(0, 97, 1, 40, 0, 0);
+            x.put(0, 97, 1);
+            x.tick(0);
+            Bench.hearFrame(x, 0, 2, 1 | on << 5);
+            boolean counts = on <= 2;
+            BENCH.due("sent from, parts with NEXT " + on, x.of(0, 4) * 10 + x.of(0, 6), counts ? on * 10 + 2 - on : 2);
+        }
+        Peer peer = sending(7, 0);
+        peer.frame(3 << 5, 0);
+        BENCH.due("DATA, too", peer.x.of(1, 4) * 10 + peer.x.of(1, 6), 35);
+        peer.next = 3;
+        peer.goon();
+        peer.due("the fourth part is sent first", "10 38 1 192 0 3 | 10 40 1 192 0 3 | 10 42 1 192 0 3 | 10 44 1 192 0 3"
+            + " | 10 62 1 192 0 3");
+    }
+
+    private static void nothingOfTheFrame() {
+        BENCH.sentence("else nothing of the FRAME counts)");
+        for (int window = 1; window < 7; window++) {
+            Peer peer = sending(window, 0);
+            int far = window + 1 << 5;
+            int data = peer.number << 1;
+            BENCH.dueNothing("GOON with TURN", peer.x, 1, 11, 17 | far);
+            BENCH.dueNothing("AGAIN with TURN", peer.x, 1, 11, 25 | far);
+            BENCH.dueNothing("DATA with TURN", peer.x, 1, 11, data | 16 | far, 128, 1);
+            BENCH.dueNothing("DATA that would be missed", peer.x, 1, 11, data + 2 & 15 | far, 128, 1);
+        }
+        Peer peer = new Peer(BENCH, 7);
+        peer.frame(2 | 1 << 5, 0);
+        peer.frame(16 | 7 << 5, 0);
+        peer.goon();
+        peer.due("nothing was missed", "10 17");
+        BeamHouse x = Bench.linked(7);
+        x.tick(0);
+        x.take(0);
+        BENCH.dueNothing("GOON with TURN for a first one", x, 0, 2, 17 | 1 << 5);
+        BENCH.dueNothing("DATA with TURN for a first one", x, 0, 2, 16 | 7 << 5, 0);
+    }
+
+    private static void whatWasSentLast() {
+        BENCH.sentence("than what was sent last;");
+        Peer peer = new Peer(BENCH, 7);
+        BENCH.dueNothing("nothing was sent", peer.x, 1, 11, 17 | 1 << 5);
+        peer.data(false, ASKED);
+        BENCH.dueNothing("what waits was not sent", peer.x, 1, 11, 17 | 1 << 5);
+        peer.goon();
+        peer.x.take(1);
+        peer.frame(1 | 1 << 5);
+        BENCH.due("it is there", peer.x.of(1, 4) * 10 + peer.x.of(1, 6), 10);
+        BENCH.dueNothing("not one more", peer.x, 1, 11, 17 | 2 << 5);
+        BENCH.dueNothing("an old one is seven farther on", peer.x, 1, 11, 17);
+        Peer other = sending(4, 0);
+        other.frame(1 | 2 << 5);
+        BENCH.dueNothing("two of four are there: not three more", other.x, 1, 11, 17 | 5 << 5);
+        other.frame(1 | 4 << 5);
+        BENCH.due("but two more", other.x.of(1, 4) * 10 + other.x.of(1, 6), 44);
+    }
+
+    private static void takesItsNumber() {
+        BENCH.sentence("DATA: if its number is TAKEN");
+        for (int taken = 0; taken < 8; taken++) {
+            for (int number = 0; number < 8; number++) {
+                Peer peer = new Peer(BENCH, 7);
+                for (int i = 0; i < taken; i++) {
+                    peer.data(false, 0);
+                }
+                peer.frame(number << 1 | 16, 128, 9);
+                int now = taken + (number == taken ? 1 : 0) & 7;
+                BENCH.due("number " + number + " at " + taken, peer.x.of(1, 5), now);
+                BENCH.due("its bytes go up", peer.x.of(1, 9), number == taken ? 1 : 0);
+                peer.due("else it is missed", "10 " + ((number == taken ? 17 : 25) | now << 5));
+            }
+        }
+    }
+
+    private static void takes1To32Bytes() {
+        BENCH.sentence("(and it has 1 to 32 bytes)");
+        for (int n : new int[] {0, 1, 2, 31, 32, 33, 34, 69, 70}) {
+            int[] part = new int[n];
+            if (n > 0) {
+                part[0] = 128 | 3;
+            }
+            boolean fits = n >= 1 && n <= 32;
+            Peer peer = new Peer(BENCH, 7);
+            peer.frame(16, part);
+            BENCH.due(n + " bytes: taken", peer.x.of(1, 5), fits ? 1 : 0);
+            BENCH.due(n + " bytes: credit", peer.x.of(1, 8), fits ? 7 : 4);
+            peer.due(n + " bytes: the turn", "10 " + (fits ? 17 | 1 << 5 : 25));
+            BeamHouse x = Bench.linked(7);
+            x.tick(0);
+            Bench.hearFrame(x, 0, Bench.join(new int[] {2, 16}, part));
+            BENCH.due(n + " bytes for a first one", x.of(0, 5) * 10 + x.of(0, 15), fits ? 11 : 1);
+        }
+    }
+
+    private static void takenGoesRound() {
+        BENCH.sentence("TAKEN is 1 more, modulo 8, its bytes go UP; else it is MISSED.");
+        Peer peer = new Peer(BENCH, 7);
         for (int i = 0; i < 20; i++) {
             BENCH.due("taken", peer.x.of(1, 5), i & 7);
             peer.data(true, 0);
-            BENCH.due("goon with the next", peer.takes(), "10 " + (17 | (i + 1 & 7) << 5));
+            peer.due("goon with the next", "10 " + (17 | (i + 1 & 7) << 5));
+        }
+        peer.number = 3;
+        peer.data(true, 1);
+        BENCH.due("doubled: not taken again", peer.x.of(1, 5) * 10 + peer.x.of(1, 8), 44);
+        peer.due("missed", "10 " + (25 | 4 << 5));
+    }
+
+    private static void hasTheTurn() {
+        BENCH.sentence("With TURN: it has the TURN.");
+        int[][] frames = {{2, 1}, {2, 9}, {2, 0, 0}, {2, 2, 0}, {2, 0}};
+        for (int[] frame : frames) {
+            BeamHouse x = Bench.linked(3);
+            x.tick(0);
+            x.take(0);
+            Bench.hearFrame(x, 0, frame);
+            BENCH.due("without: kind " + frame[1], x.of(0, 15), 0);
+            Bench.hearFrame(x, 0, Bench.change(frame, 1, frame[1] | 16 | (x.of(0, 5) == 1 ? 2 : 0)));
+            BENCH.due("with: kind " + frame[1], x.of(0, 15), 1);
+            BENCH.dueAir("a first one does not use it before its tick", x, 0, "");
         }
     }
 
-    private static void missed() {
-        Peer peer = new Peer(7);
-        peer.frame(2 | 16, 0);
-        BENCH.due("number 1 for 0: again", peer.takes(), "10 25");
-        BENCH.due("not taken", peer.x.of(1, 5), 0);
-        peer.goon();
-        BENCH.due("told once", peer.takes(), "10 17");
-        peer.data(false, 0);
-        peer.frame(0, 0);
-        BENCH.due("doubled: nothing before the turn", peer.takes(), "");
-        peer.goon();
-        BENCH.due("doubled: again", peer.takes(), "10 " + (25 | 1 << 5));
-        peer.frame(2);
-        peer.goon();
-        BENCH.due("without bytes: again", peer.takes(), "10 " + (25 | 1 << 5));
-        peer.frame(2 | 16, new int[33]);
-        BENCH.due("33 bytes: again, and the turn", peer.takes(), "10 " + (25 | 1 << 5));
-        int[] most = new int[32];
-        most[0] = 128;
-        peer.data(true, most);
-        BENCH.due("32 bytes are taken", peer.takes(), "10 " + (17 | 2 << 5));
-        peer.x.store(1, 97, 1, 1, 7, 0);
-        peer.x.put(1, 97, 1);
-        peer.frame(14 | 16, 0);
-        BENCH.due("missed, but it has data", peer.takes(), "10 80 1 130 0 11 1 0 4 97 73 0 4 7");
-        peer.goon();
-        BENCH.due("that was its turn", peer.takes(), "10 " + (17 | 2 << 5));
-    }
-
-    private static void knownToBeThere() {
-        Peer peer = new Peer(7);
-        peer.x.store(1, 97, 1, 40, 0, 0);
-        peer.x.put(1, 97, 1);
-        BENCH.due("two parts", peer.x.of(1, 6), 2);
-        peer.goon();
-        Bench.sent(peer.x, 1);
-        BENCH.due("they wait still", peer.x.of(1, 6), 2);
-        peer.frame(1 | 1 << 5);
-        BENCH.due("one is there", peer.x.of(1, 6) * 10 + peer.x.of(1, 4), 11);
-        peer.frame(9 | 2 << 5);
-        BENCH.due("AGAIN tells it, too", peer.x.of(1, 6) * 10 + peer.x.of(1, 4), 2);
-        BENCH.due("without turn nothing is sent", peer.takes(), "");
-    }
-
-    /** Nothing of a frame counts whose NEXT is farther on than what was sent. */
-    private static void farNext() {
-        Peer peer = new Peer(7);
-        peer.frame(17 | 1 << 5);
-        BENCH.due("nothing was sent: no turn", peer.takes(), "");
-        peer.frame(16 | 7 << 5, 0);
-        BENCH.due("nothing was sent: no data", peer.x.of(1, 5), 0);
-        peer.goon();
-        BENCH.due("nor was it missed", peer.takes(), "10 17");
-        peer.x.store(1, 97, 1, 40, 0, 0);
-        peer.x.put(1, 97, 1);
-        peer.frame(17 | 1 << 5);
-        BENCH.due("waiting is not sent", peer.takes() + peer.x.of(1, 6), "2");
-        peer.goon();
-        Bench.sent(peer.x, 1);
-        peer.frame(17 | 3 << 5);
-        BENCH.due("two were sent, not three", peer.takes() + peer.x.of(1, 6), "2");
-        peer.frame(1 | 1 << 5);
-        peer.frame(17 | 3 << 5);
-        BENCH.due("one of two is there: not two more", peer.takes() + peer.x.of(1, 6), "1");
-        peer.frame(17 | 2 << 5);
-        BENCH.due("two were sent", peer.takes() + peer.x.of(1, 6), "10 170");
-        peer.frame(17 | 1 << 5);
-        BENCH.due("an old frame", peer.takes(), "");
-    }
-
-    private static void otherLinks() {
-        Peer peer = new Peer(7);
-        for (int head : new int[] {10, 9, 13, 255, 1}) {
-            for (int[] frame : new int[][] {{head, 17}, {head, 25}, {head, 16, 0}, {head, 83}, {head, 31}}) {
-                Bench.hearFrame(peer.x, 1, frame);
-            }
-        }
-        Bench.hearFrame(peer.x, 1, 11, 31);
-        Bench.hearFrame(peer.x, 1, 11, 115);
-        Bench.hearFrame(peer.x, 1, 11, 83, 0);
-        Bench.hearFrame(peer.x, 1, 11, 17, 0);
-        Bench.hearFrame(peer.x, 1, 11, 25, 0);
-        BENCH.due("nothing", peer.takes(), "");
-        BENCH.due("still second", peer.x.of(1, 0), 4);
-        peer.goon();
-        BENCH.due("nothing was missed", peer.takes(), "10 17");
-    }
-
-    private static void polls() {
-        BeamHouse x = Bench.linked(3);
-        x.tick(0);
-        BENCH.due("its turn", Bench.air(x, 0), "3 17");
-        for (int k = 1; k <= 17; k++) {
-            BENCH.due("tick " + k, x.tick(0), 3);
-            BENCH.due("each third one", Bench.air(x, 0), k % 3 == 0 ? "3 17" : "");
-        }
-        BENCH.due("the sixth third one", x.tick(0), 0);
-        BENCH.due("sends nothing", Bench.air(x, 0), "");
-        BeamHouse y = Bench.linked(3);
-        y.tick(0);
-        for (int k = 1; k <= 17; k++) {
-            y.tick(0);
-        }
-        Bench.air(y, 0);
-        Bench.hearFrame(y, 0, 2, 17);
-        BENCH.due("the turn comes at last", y.of(0, 15), 1);
-        y.tick(0);
-        BENCH.due("it sends", Bench.air(y, 0), "3 17");
-        for (int k = 1; k <= 17; k++) {
-            BENCH.due("anew", y.tick(0), 3);
-        }
-        BENCH.due("anew", y.tick(0), 0);
-        BeamHouse z = Bench.linked(3);
-        z.tick(0);
-        Bench.air(z, 0);
-        Bench.hearFrame(z, 0, 2, 2, 0);
-        BENCH.due("missed", z.of(0, 5), 0);
-        z.tick(0);
-        z.tick(0);
-        z.tick(0);
-        BENCH.due("a poll is GOON", Bench.air(z, 0), "3 17");
-        Bench.hearFrame(z, 0, 2, 17);
-        z.tick(0);
-        BENCH.due("its turn is AGAIN", Bench.air(z, 0), "3 25");
-    }
-
-    private static void secondWaits() {
-        Peer peer = new Peer(1);
-        for (int k = 1; k < 40; k++) {
-            BENCH.due("tick " + k, peer.x.tick(1), 4);
-        }
-        peer.goon();
-        BENCH.due("it is there", peer.takes(), "10 17");
-        for (int k = 1; k < 40; k++) {
-            BENCH.due("tick " + k, peer.x.tick(1), 4);
-        }
+    private static void turnOfSecond() {
+        BENCH.sentence("The TURN: SECOND, as soon as it has it");
+        Peer peer = new Peer(BENCH, 3);
         peer.frame(1);
-        for (int k = 1; k < 40; k++) {
-            BENCH.due("without turn, too: tick " + k, peer.x.tick(1), 4);
-        }
-        Bench.hearFrame(peer.x, 1, 13, 17);
-        BENCH.due("another link's frame does not count", peer.x.tick(1), 0);
-        BENCH.due("nothing is sent", peer.takes(), "");
-        BENCH.due("no link", peer.x.of(1, 2), 0);
+        peer.frame(9);
+        peer.data(false, 0);
+        peer.due("without TURN nothing is sent", "");
+        peer.goon();
+        BENCH.due("it has it no more", peer.x.of(1, 15), 0);
+        peer.due("at once", "10 " + (17 | 1 << 5));
+        peer.frame(25);
+        peer.due("by AGAIN", "10 " + (17 | 1 << 5));
+        peer.data(true, 0);
+        peer.due("by DATA", "10 " + (17 | 2 << 5));
+        BENCH.due("a tick sends nothing", peer.x.tick(1) * 100 + peer.x.of(1, 10), 400);
     }
 
-    private static void ends() {
+    /** Of a first one of link 1 that puts "a" of 40 bytes 0: 31 and 19 bytes of its row. */
+    private static String putOf40(int taken) {
+        return "3 " + (taken << 5) + " 128 130 0 50 1 0 4 97 73 0 43" + " 0".repeat(21)
+            + " | 3 " + (18 | taken << 5) + " 0" + " 0".repeat(19);
+    }
+
+    private static void turnOfFirst() {
+        BENCH.sentence("FIRST with a tick: it sends, from SENT FROM on, its parts that wait");
         BeamHouse x = Bench.linked(2);
-        x.store(0, 97, 1, 5, 0, 0);
+        BENCH.dueAir("not before", x, 0, "");
+        x.store(0, 97, 1, 40, 0, 0);
         x.put(0, 97, 1);
-        x.end(0);
+        BENCH.dueAir("not before", x, 0, "");
         x.tick(0);
-        BENCH.due("parts go first", Bench.sent(x, 0).get(0)[1], 16);
-        BENCH.due("still first", x.of(0, 0), 3);
-        BeamHouse y = Bench.linked(2);
-        y.store(0, 97, 1, 5, 0, 0);
-        y.put(0, 97, 1);
-        y.end(0);
-        Bench.go(y, 1);
-        BENCH.due("put", y.of(0, 14), 160);
-        y.tick(0);
-        BENCH.due("then END", Bench.air(y, 0), "3 83");
-        BENCH.due("no turn", y.of(0, 15), 0);
-        Bench.hearFrame(y, 0, 2, 115, 0);
-        Bench.hearFrame(y, 0, 4, 115);
-        Bench.hearFrame(y, 0, 3, 115);
-        BENCH.due("no such yes", y.of(0, 0), 3);
-        Bench.hearFrame(y, 1, 3, 83);
-        BENCH.due("yes", Bench.air(y, 1), "2 115");
-        BENCH.due("idle", y.of(1, 0), 0);
-        Bench.hearFrame(y, 0, 2, 115);
-        BENCH.due("idle", y.of(0, 0), 0);
-    }
-
-    private static void endRefused() {
-        BeamHouse x = Bench.linked(2);
-        Bench.hearFrame(x, 0, 2, 115);
-        BENCH.due("yes without an END", x.of(0, 0), 3);
-        Bench.hearFrame(x, 0, 2, 83);
-        BENCH.due("END of the second one", x.of(0, 0), 3);
-        BENCH.due("END of the second one", Bench.air(x, 0), "");
-        x.end(0);
-        Bench.hearFrame(x, 0, 2, 115);
-        BENCH.due("wished, not sent", x.of(0, 0), 3);
+        String both = putOf40(0);
+        BENCH.dueAir("two parts", x, 0, both);
+        BENCH.due("they wait still", x.of(0, 6), 2);
+        BENCH.due("it has it no more", x.of(0, 15), 0);
+        Bench.hearFrame(x, 0, 2, 25);
         x.tick(0);
-        Bench.hearFrame(x, 0, 2, 31);
-        BENCH.due("NO", x.of(0, 0), 0);
-    }
-
-    private static void endAgain() {
-        BeamHouse x = Bench.linked(2);
-        x.end(0);
-        x.tick(0);
-        BENCH.due("END", Bench.air(x, 0), "3 83");
-        for (int k = 1; k <= 17; k++) {
-            BENCH.due("tick " + k, x.tick(0), 3);
-            BENCH.due("END again", Bench.air(x, 0), k % 3 == 0 ? "3 83" : "");
-        }
-        BENCH.due("the sixth time", x.tick(0), 0);
-        BeamHouse y = Bench.linked(2);
-        y.tick(0);
-        y.end(0);
-        Bench.air(y, 0);
-        y.tick(0);
-        y.tick(0);
-        y.tick(0);
-        BENCH.due("wished, not sent: GOON", Bench.air(y, 0), "3 17");
-        Bench.hearFrame(y, 0, 2, 17);
-        y.tick(0);
-        BENCH.due("with the turn: END", Bench.air(y, 0), "3 83");
-    }
-
-    private static BeamHouse endSent() {
-        BeamHouse x = Bench.linked(2);
-        x.store(0, 97, 1, 0, 0, 0);
-        x.end(0);
-        x.tick(0);
-        BENCH.due("END", Bench.air(x, 0), "3 83");
-        return x;
-    }
-
-    /** END, then the turn again with a part that waits: DATA is the latest that it sent. */
-    private static BeamHouse dataSentSince() {
-        BeamHouse x = endSent();
-        Bench.hearFrame(x, 0, 2, 17);
-        x.put(0, 97, 1);
-        x.tick(0);
-        BENCH.due("a part waits: DATA, not END", Bench.air(x, 0), "3 16 0 130 0 10 1 0 4 97 73 0 3");
-        return x;
-    }
-
-    /** Of each tick from the first one since it sent, up to the 17th, what is due; with the 18th it is idle. */
-    private static void pollsAre(String what, BeamHouse x, String poll) {
-        for (int k = 1; k <= 17; k++) {
-            BENCH.due(what + ": state at tick " + k, x.tick(0), 3);
-            BENCH.due(what + ": tick " + k, Bench.air(x, 0), k % 3 == 0 ? poll : "");
-        }
-        BENCH.due(what + ": the sixth time", x.tick(0), 0);
-        BENCH.due(what + ": then nothing", Bench.air(x, 0), "");
-    }
-
-    private static void endInItsTurnAgain() {
-        BeamHouse x = endSent();
-        x.tick(0);
-        x.tick(0);
-        Bench.hearFrame(x, 0, 2, 17);
-        x.tick(0);
-        BENCH.due("no part waits: END", Bench.air(x, 0), "3 83");
-        pollsAre("END in its turn again", x, "3 83");
-    }
-
-    /** What waits does not matter without the turn: END is what it sent. */
-    private static void partBehindEnd() {
-        BeamHouse x = endSent();
-        x.put(0, 97, 1);
-        BENCH.due("a part waits", x.of(0, 6), 1);
-        pollsAre("a part waits, END is what it sent", x, "3 83");
-    }
-
-    private static void dataBehindEnd() {
-        pollsAre("DATA is what it sent", dataSentSince(), "3 17");
-        BeamHouse x = dataSentSince();
+        BENCH.dueAir("none is known: both again", x, 0, both);
         Bench.hearFrame(x, 0, 2, 17 | 1 << 5);
         x.tick(0);
-        BENCH.due("it is there: END, still wished", Bench.air(x, 0), "3 83");
-        pollsAre("END behind DATA", x, "3 83");
-        BeamHouse y = dataSentSince();
-        Bench.hearFrame(y, 0, 2, 17);
-        y.tick(0);
-        BENCH.due("it is not there: DATA again", Bench.sent(y, 0).get(0)[1], 16);
-        pollsAre("DATA again is what it sent", y, "3 17");
+        BENCH.dueAir("one is known: the other one", x, 0, "3 18 0" + " 0".repeat(19));
+        Bench.hearFrame(x, 0, 2, 17 | 2 << 5);
+        x.tick(0);
+        BENCH.dueAir("both are known", x, 0, "3 17");
     }
 
-    private static void dataThereWithoutTurn() {
-        BeamHouse x = dataSentSince();
-        Bench.hearFrame(x, 0, 2, 1 | 1 << 5);
-        BENCH.due("no part waits", x.of(0, 6), 0);
-        pollsAre("no part waits, DATA is what it sent", x, "3 17");
-        BeamHouse y = dataSentSince();
-        Bench.hearFrame(y, 0, 2, 0, 1, 160, 0, 3);
-        BENCH.due("put", y.of(0, 14), 160);
-        y.tick(0);
-        y.tick(0);
-        y.tick(0);
-        BENCH.due("GOON with its NEXT", Bench.air(y, 0), "3 " + (17 | 1 << 5));
+    private static void asManyAsTheWindow() {
+        BENCH.sentence("as many as its WINDOW lets, as DATA, the last one with TURN;");
+        for (int window = 1; window <= 7; window++) {
+            for (int parts = 1; parts <= 8; parts++) {
+                Peer peer = new Peer(BENCH, window);
+                for (int i = 0; i < parts; i++) {
+                    peer.data(false, ASKED);
+                }
+                peer.goon();
+                StringBuilder due = new StringBuilder();
+                int n = Math.min(window, parts);
+                for (int i = 0; i < n; i++) {
+                    int kind = i << 1 | (i == n - 1 ? 16 : 0) | (parts & 7) << 5;
+                    due.append(i == 0 ? "" : " | ").append("10 ").append(kind).append(" 1 192 0 3");
+                }
+                peer.due(parts + " parts, window " + window, due.toString());
+            }
+        }
     }
 
-    /** It sent END in this link, whatever it sent since. */
-    private static void yesBehindData() {
-        BeamHouse x = dataSentSince();
-        Bench.hearFrame(x, 0, 2, 115);
-        BENCH.due("YES for one that sent END", x.of(0, 0), 0);
-        BENCH.due("lost on its way", x.of(0, 14), 0);
+    private static void againIfMissed() {
+        BENCH.sentence("without any GOON with TURN (AGAIN, if something was MISSED since its latest TURN);");
+        Peer peer = new Peer(BENCH, 7);
+        peer.goon();
+        peer.due("nothing was missed", "10 17");
+        peer.frame(2 | 16, 0);
+        peer.due("missed with the turn", "10 25");
+        peer.goon();
+        peer.due("told once", "10 17");
+        peer.frame(2, 0);
+        peer.frame(1);
+        peer.due("missed: nothing before the turn", "");
+        peer.goon();
+        peer.due("missed before the turn", "10 25");
+        peer.frame(2, 0);
+        peer.data(true, 0);
+        peer.due("missed, then one is taken", "10 " + (25 | 1 << 5));
+        peer.data(true, 0);
+        peer.due("told once", "10 " + (17 | 2 << 5));
+    }
+
+    private static void againOfFirst() {
+        BENCH.sentence("AGAIN, if something was MISSED");
+        BeamHouse x = Bench.linked(3);
+        Bench.hearFrame(x, 0, 2, 2, 0);
+        x.tick(0);
+        BENCH.dueAir("missed before its first turn", x, 0, "3 25");
+        Bench.hearFrame(x, 0, 2, 17);
+        x.tick(0);
+        BENCH.dueAir("told once", x, 0, "3 17");
+        Bench.hearFrame(x, 0, 2, 2, 0);
+        Bench.ticks(x, 0, 3);
+        BENCH.dueAir("a poll is GOON", x, 0, "3 17");
+        Bench.hearFrame(x, 0, 2, 17);
+        x.tick(0);
+        BENCH.dueAir("its turn is AGAIN", x, 0, "3 25");
+    }
+
+    private static void missedSinceItsLatestTurn() {
+        BENCH.sentence("since its latest TURN");
+        Peer peer = new Peer(BENCH, 7);
+        peer.x.store(1, 97, 1, 1, 7, 0);
+        peer.x.put(1, 97, 1);
+        peer.frame(2 | 16, 0);
+        peer.due("missed, but it has data", "10 16 0 130 0 11 1 0 4 97 73 0 4 7");
+        peer.goon();
+        peer.due("that was its turn", "10 17");
+        BeamHouse x = Bench.linked(3);
+        x.end(0);
+        Bench.hearFrame(x, 0, 2, 2, 0);
+        x.tick(0);
+        BENCH.dueAir("missed, but it sends END", x, 0, "3 83");
+        x.store(0, 97, 1, 0, 0, 0);
+        x.put(0, 97, 1);
+        Bench.hearFrame(x, 0, 2, 17);
+        x.tick(0);
+        BENCH.dueAir("DATA", x, 0, "3 16 0 130 0 10 1 0 4 97 73 0 3");
+    }
+
+    private static void nextIsTaken() {
+        BENCH.sentence("all with NEXT its TAKEN. It has it no more.");
+        for (int taken = 0; taken < 8; taken++) {
+            BeamHouse x = Bench.linked(7);
+            x.store(0, 97, 1, 40, 0, 0);
+            for (int i = 0; i < taken; i++) {
+                Bench.hearFrame(x, 0, 2, i << 1, 0);
+            }
+            x.put(0, 97, 1);
+            x.tick(0);
+            BENCH.dueAir("NEXT of DATA", x, 0, putOf40(taken));
+            BENCH.due("the turn is given", x.of(0, 15), 0);
+            Bench.ticks(x, 0, 3);
+            BENCH.dueAir("NEXT of a poll", x, 0, "3 " + (17 | taken << 5));
+            Bench.hearFrame(x, 0, 2, taken + 1 << 1 & 15 | 16 | 2 << 5, 0);
+            x.tick(0);
+            BENCH.dueAir("NEXT of AGAIN", x, 0, "3 " + (25 | taken << 5));
+        }
     }
 
     /** Nothing of a link goes on in the next one. */
-    private static void linkedAnew() {
-        BeamHouse x = Bench.linked(2);
-        x.store(0, 97, 1, 60, 0, 0);
-        x.put(0, 97, 1);
-        x.tick(0);
-        x.end(0);
-        Bench.hearFrame(x, 0, 2, 6, 128, 1);
-        Bench.hearFrame(x, 0, 2, 31);
-        BENCH.due("idle", x.of(0, 0), 0);
-        Bench.air(x, 0);
-        x.take(1);
-        Bench.hearFrame(x, 1, 3, 83);
-        x.take(1);
-        int link = x.call(0, 2, 2);
-        x.talk(0, 1, 1);
-        BENCH.due("first again", x.of(0, 0), 3);
-        Bench.hearFrame(x, 0, link * 2, 115);
-        BENCH.due("no END was sent", x.of(0, 0), 3);
-        Bench.hearFrame(x, 0, link * 2, 17 | 1 << 5);
-        BENCH.due("nothing was sent in this link", x.of(0, 4), 0);
-        x.tick(0);
-        BENCH.due("nothing was missed, none is wished", Bench.air(x, 0), link * 2 + 1 + " 17");
-        x.end(0);
-        Bench.hearFrame(x, 0, link * 2, 17);
-        x.tick(0);
-        Bench.hearFrame(x, 0, link * 2, 115);
-        Bench.air(x, 0);
-        link = x.call(0, 2, 2);
-        Bench.hearFrame(x, 0, link * 2, 115, 2, 0, 0, 0, 1, 0, 0, 0, 2);
-        Bench.hearFrame(x, 0, link * 2, 115);
-        BENCH.due("no END was sent in this link", x.of(0, 0), 3);
-    }
-
-    private static void secondAnew() {
-        Peer peer = new Peer(7);
-        peer.x.store(1, 97, 1, 60, 0, 0);
-        for (int i = 0; i < 3; i++) {
-            peer.data(false, 0, 131, 0, 3);
-        }
-        peer.x.put(1, 97, 1);
-        BENCH.due("half of a row waits", peer.x.of(1, 7), 1);
-        int[] part = new int[32];
-        part[0] = 128;
-        peer.data(false, part);
+    private static void beginsAnew() {
+        BENCH.sentence("0 at first), PARTS that wait");
+        Peer peer = sending(7, 3);
+        peer.frame(2, 9);
         peer.frame(83);
-        Bench.sent(peer.x, 1);
-        int[] call = {255, 147, 9, 0, 0, 0, 2, 0, 0, 0, 5, 7};
-        Bench.hearFrame(peer.x, 1, call);
-        Bench.sent(peer.x, 1);
-        Bench.hearFrame(peer.x, 1, call);
-        BENCH.due("no data was taken in this link", Bench.sent(peer.x, 1).size(), 1);
-        BENCH.due("no rows, no parts", peer.x.of(1, 6) + peer.x.of(1, 7), 0);
-        BENCH.due("credit, owed", peer.x.of(1, 8) * 10 + peer.x.of(1, 9), 40);
-        peer.number = 0;
-        peer.next = 0;
-        peer.data(true, 0, 131, 0, 7, 1, 0, 4, 98);
-        BENCH.due("half a row is gone", peer.takes(), "10 " + (16 | 1 << 5) + " 1 196 0 3");
-        peer.x.put(1, 97, 1);
+        peer.links();
+        BENCH.due("numbers, parts", peer.x.of(1, 4) + peer.x.of(1, 5) + peer.x.of(1, 6), 0);
+        BENCH.dueNothing("nothing was sent in this link", peer.x, 1, 11, 17 | 1 << 5);
         peer.goon();
-        java.util.List<int[]> frames = Bench.sent(peer.x, 1);
-        BENCH.due("a row from its first byte", frames.get(0)[3] * 1000 + frames.get(0)[2], 2128);
-    }
-
-    private static void noForFirst() {
-        BeamHouse x = Bench.linked(2);
-        Bench.hearFrame(x, 0, 2, 31, 0);
-        Bench.hearFrame(x, 0, 3, 31);
-        Bench.hearFrame(x, 0, 4, 31);
-        BENCH.due("no such NO", x.of(0, 0), 3);
-        x.get(0, 97, 1);
-        BENCH.due("on its way", x.of(0, 14), 1);
-        Bench.hearFrame(x, 0, 2, 31);
-        BENCH.due("NO", x.of(0, 0), 0);
-        BENCH.due("lost on its way", x.of(0, 14), 0);
-        BENCH.due("parts are lost", x.of(0, 6), 0);
-        BENCH.due("the turn is lost", x.of(0, 15), 0);
-        x.call(0, 2, 2);
-        Bench.air(x, 0);
-        BENCH.due("it may call again", x.of(0, 0), 2);
+        peer.due("nothing was missed in this link", "10 17");
+        peer.data(true, ASKED);
+        peer.due("numbers from 0 on", "10 " + (16 | 1 << 5) + " 1 192 0 3");
     }
 }
