@@ -37,15 +37,26 @@ final class Bench {
 
     /** What lies on a device's air, frame by frame, each without its check; it is taken. Few calls, if it is right. */
     void dueAir(String what, BeamHouse x, int d, String want) {
-        int[] bytes = wrapped(want);
-        boolean isAll = x.of(d, 10) == bytes.length;
-        if (isAll && bytes.length <= 1000) {
-            int n = x.take(d);
-            isAll = x.tape(1, n) == check(bytes, n);
-            due(what, isAll ? want : told(frames(onTape(x))), want);
-        } else {
+        if (x.of(d, 10) > 1000) {
             due(what, told(sent(x, d)), want);
+        } else {
+            x.take(d);
+            due(what, isOnTape(x, want) ? want : told(frames(onTape(x))), want);
         }
+    }
+
+    /** All frames with their own checks have one check: so each is also looked at up to its own check. */
+    private static boolean isOnTape(BeamHouse x, String frames) {
+        int[] all = new int[0];
+        for (String frame : split(frames)) {
+            int[] next = join(all, wrap(bytes(frame)));
+            int cut = all.length + escape(bytes(frame)).length - 1;
+            if (x.tape(1, cut) != check(next, cut)) {
+                return false;
+            }
+            all = next;
+        }
+        return x.tape(0, 0) == all.length && x.tape(1, all.length) == check(all, all.length);
     }
 
     /** The frame is heard, but all that of() tells of the device stays, but for how many were heard. */
@@ -260,12 +271,8 @@ final class Bench {
         return text.isEmpty() ? new int[0] : Arrays.stream(text.split(" ")).mapToInt(Integer::parseInt).toArray();
     }
 
-    private static int[] wrapped(String frames) {
-        int[] all = new int[0];
-        for (String frame : frames.isEmpty() ? new String[0] : frames.split(" \\| ")) {
-            all = join(all, wrap(bytes(frame)));
-        }
-        return all;
+    static String[] split(String frames) {
+        return frames.isEmpty() ? new String[0] : frames.split(" \\| ");
     }
 
     /** All that of() tells of a device. */

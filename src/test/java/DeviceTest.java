@@ -183,6 +183,8 @@ public final class DeviceTest {
         BENCH.due("none is dropped", x.of(2, 12), 0);
         Bench.hearFrame(x, 1, 25, 17);
         BENCH.dueAir("there is room again", x, 1, "24 31");
+        BeamHouse z = withAir(4000);
+        BENCH.due("all of it may be taken", Bench.text(z.take(1), z.take(1), z.take(1), z.take(1), z.take(1)), "1000 1000 1000 1000 0");
         BeamHouse y = withAir(3995);
         Bench.hearFrame(y, 1, 25, 17);
         BENCH.due("with 6 they would be 4001", y.of(1, 10), 3995);

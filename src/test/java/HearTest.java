@@ -321,8 +321,7 @@ public final class HearTest {
         BENCH.due("but for the first and the last byte", x.hear(1, 1, 16), 1);
         BENCH.due("but for the last byte", x.hear(2, 0, 17), 2);
         BENCH.due("no bytes", x.hear(0, 0, 0) + x.hear(0, 20, 0), 0);
-        BENCH.due("the tape stays", x.tape(0, 0), 20);
-        BENCH.due("the tape stays", x.tape(1, 18), Bench.check(Bench.times(3, GOOD), 18));
+        BENCH.due("the tape stays", Bench.text(Bench.onTape(x)), Bench.text(Bench.join(GOOD, GOOD, GOOD, new int[2])));
         BENCH.due("heard in all", x.of(0, 11), 4);
     }
 

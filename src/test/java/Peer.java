@@ -71,7 +71,7 @@ final class Peer {
     /** What the device has sent; its DATA are known to be there from now on. */
     void due(String what, String frames) {
         bench.dueAir(what, x, d, frames);
-        for (String frame : frames.isEmpty() ? new String[0] : frames.split(" \\| ")) {
+        for (String frame : Bench.split(frames)) {
             next = next + ((Bench.bytes(frame)[1] & 1) == 0 ? 1 : 0) & 7;
         }
     }

@@ -143,7 +143,9 @@ public final class TapeTest {
             int[] due = Arrays.copyOfRange(all, from, Math.min(all.length, from + 1000));
             BENCH.due("bytes on the air", x.of(1, 10), all.length - from);
             BENCH.due("how many", x.take(1), due.length);
-            BENCH.due("from byte " + from + " on", x.tape(1, due.length), Bench.check(due, due.length));
+            for (int n = due.length; n > 0; n -= 83) {
+                BENCH.due(n + " from byte " + from + " on", x.tape(1, n), Bench.check(due, n));
+            }
         }
         BENCH.due("nothing is left", x.of(1, 10), 0);
         BENCH.due("nothing more", x.take(1), 0);
