@@ -20,6 +20,7 @@ public final class ClientTest {
         illAnswers();
         notWaitedFor();
         putAsItWas();
+        asksOneBehindAnother();
         sizesGoOver();
         putsNot();
         putsWhileAnother();
@@ -259,6 +260,29 @@ public final class ClientTest {
         BENCH.due("put by the second one", x.put(1, 97, 1), 1);
         Bench.go(x, 9);
         BENCH.due("done", x.of(1, 14) * 1000 + x.size(0, 97, 1), 160120);
+    }
+
+    /** Nothing of what was asked before goes into the next. */
+    private static void asksOneBehindAnother() {
+        BENCH.sentence("PUT of an OBJECT of a DEVICE to the other one: 1.");
+        Peer peer = asked(false, 41);
+        statusBehind(peer, 144, 0, 3);
+        statusBehind(peer, 160, 0, 3);
+        peer.goon();
+        peer.takes();
+        peer.x.store(1, 98, 1, 1, 2, 0);
+        peer.x.put(1, 98, 1);
+        peer.goon();
+        peer.dueRows("put behind put", "130 0 11 1 0 4 98 73 0 4 2");
+        statusBehind(peer, 160, 0, 3);
+        peer.x.get(1, 99, 1);
+        statusBehind(peer, 144, 0, 7, 72, 0, 4, 3);
+        statusBehind(peer, 196, 0, 3);
+        peer.x.get(1, 99, 1);
+        BENCH.due("get behind get", statusBehind(peer, 160, 0, 7, 73, 0, 4, 4), 160);
+        BENCH.due("what came before is not in it", peer.x.size(1, 99, 1) * 10 + peer.x.octet(1, 99, 1, 0), 14);
+        peer.x.put(1, 99, 1);
+        BENCH.due("put behind get: 144 is no BODY to keep", statusBehind(peer, 144, 0, 3), 144);
     }
 
     private static void sizesGoOver() {

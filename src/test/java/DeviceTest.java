@@ -185,6 +185,9 @@ public final class DeviceTest {
         BENCH.dueAir("there is room again", x, 1, "24 31");
         BeamHouse z = withAir(4000);
         BENCH.due("all of it may be taken", Bench.text(z.take(1), z.take(1), z.take(1), z.take(1), z.take(1)), "1000 1000 1000 1000 0");
+        BeamHouse w = withAir(3993);
+        Bench.hearFrame(w, 1, 21, 17);
+        BENCH.due("with 7 they are 4000", w.of(1, 10), 4000);
         BeamHouse y = withAir(3995);
         Bench.hearFrame(y, 1, 25, 17);
         BENCH.due("with 6 they would be 4001", y.of(1, 10), 3995);

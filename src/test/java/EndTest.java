@@ -26,6 +26,7 @@ public final class EndTest {
         loses("ticks", true);
         loses("END", false);
         loses("ticks", false);
+        losesRowThatIsTooLong();
         keepsWhatIsOver();
         ticksOfNone();
         wishesEnd();
@@ -369,12 +370,24 @@ public final class EndTest {
         peer.links();
         BENCH.due("linked again: parts, rows", x.of(peer.d, 6) * 10 + x.of(peer.d, 7), 0);
         BENCH.due("linked again: credit, owed", x.of(peer.d, 8) * 10 + x.of(peer.d, 9), 40);
-        peer.dueAnswer("half a row is gone, and the get", "192 0 3", 131, 0, 3);
+        peer.dueAnswer("half a row is gone", "196 0 3", 131, 0, 7, 1, 0, 4, 99);
+        peer.dueAnswer("the get is gone", "192 0 3", 131, 0, 3);
         peer.dueAnswer("the put is gone", "192 0 3", 130, 0, 6, 73, 0, 3);
         peer.dueAnswer("its own put does not go on", "", 144, 0, 3);
         BENCH.due("it may ask", x.get(peer.d, 98, 1), 1);
         peer.goon();
         peer.dueRows("from the row's first byte", "131 0 7 1 0 4 98");
+    }
+
+    private static void losesRowThatIsTooLong() {
+        BENCH.sentence("loses its parts, what it had of UP");
+        Peer peer = new Peer(BENCH, 7);
+        for (int i = 0; i < 3; i++) {
+            peer.data(false, Bench.change(new int[32], 0, 128));
+        }
+        peer.frame(83);
+        peer.links();
+        peer.dueAnswer("the first row of the next link", "192 0 3", 131, 0, 3);
     }
 
     private static void keepsWhatIsOver() {

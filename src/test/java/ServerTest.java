@@ -201,6 +201,11 @@ public final class ServerTest {
         BENCH.due("LAST of one byte", peer.x.size(1, 97, 1) * 10 + peer.x.octet(1, 97, 1, 0), 18);
         peer.dueAnswer("a row of 60 bytes", "160 0 3", Bench.join(new int[] {130, 0, 60, 1, 0, 4, 98}, times(73, 50)));
         BENCH.due("LAST of 50 bytes", peer.x.size(1, 98, 1) * 10 + peer.x.octet(1, 98, 1, 49), 502);
+        int[] nameLast = Bench.join(new int[] {130, 0, 60}, times(73, 50), new int[] {1, 0, 4, 99});
+        peer.dueAnswer("its NAME at the end", "160 0 3", nameLast);
+        int[] bodyLast = Bench.join(new int[] {130, 0, 60, 1, 0, 4, 100}, times(73, 47), new int[] {72, 0, 3});
+        peer.dueAnswer("an empty BODY at the end", "160 0 3", bodyLast);
+        BENCH.due("LAST of 50 and of 47 bytes", peer.x.size(1, 99, 1) * 100 + peer.x.size(1, 100, 1), 5047);
         peer.dueAnswer("the lengths of the headers, the lower first", "192 0 3", 131, 0, 7, 1, 4, 0, 97);
     }
 
@@ -221,6 +226,19 @@ public final class ServerTest {
         peer.dueAnswer("256 more", "192 0 3", 131, 1, 7, 1, 0, 4, 97);
         peer.dueAnswer("the lower first", "192 0 3", 131, 7, 0, 1, 0, 4, 97);
         peer.dueAnswer("right", "160 0 6 73 0 3", 131, 0, 7, 1, 0, 4, 97);
+        shortBehindShort();
+    }
+
+    /** The bytes of the row before would make the length of this one right. */
+    private static void shortBehindShort() {
+        Peer peer = peer();
+        peer.x.store(1, 97, 1, 41, 2, 0);
+        peer.dueAnswer("a GET", "144 0 46 72 0 43" + TWOS, 131, 0, 7, 1, 0, 4, 97);
+        peer.dueAnswer("told as 1", "192 0 3", 131, 0, 1);
+        peer.dueAnswer("one byte behind it", "192 0 3", 131);
+        peer.dueAnswer("told as 2", "192 0 3", 131, 0, 2);
+        peer.dueAnswer("two bytes behind it", "192 0 3", 131, 0);
+        peer.dueAnswer("told as 3", "160 0 7 73 0 4 2", 131, 0, 3);
     }
 
     private static void headersOfAnotherKind() {

@@ -29,6 +29,7 @@ public final class StoreTest {
         BENCH.due("bytes above 127", x.store(0, -1, 8, 6, 0, 0), 1);
         BENCH.due("bytes above 127", x.size(0, -1, 8), 6);
         BENCH.due("seven of them are another name", x.size(0, -1, 7), -1);
+        BENCH.due("the least byte", x.store(0, 1, 1, 9, 0, 0) * 10 + x.size(0, 1, 1), 19);
         BENCH.due("the highest bit of 8", x.store(0, Long.MIN_VALUE | 0x01010101010101L | 1L << 56, 8, 7, 0, 0), 1);
         BENCH.due("of one byte", x.store(0, 255, 1, 8, 0, 0) * 10 + x.size(0, -1, 1), 18);
         Peer peer = Peer.ofFirst(BENCH, 1);

@@ -343,6 +343,13 @@ public final class UpTest {
         peer.x.take(1);
         peer.frame(1 | 1 << 5);
         due("room: four are told", peer, 24, 0, 28, 0);
+        peer.next = 1;
+        for (int i = 0; i < 3; i++) {
+            peer.goon();
+            peer.takes();
+        }
+        peer.goon();
+        peer.due("by the last one", "10 " + (12 | 4 << 5) + " 1 192 0 3 | 10 " + (14 | 4 << 5) + " 1 192 0 3 | 10 " + (16 | 4 << 5) + " 4");
         Peer waits = full();
         half(waits, 0);
         half(waits, 0);
