@@ -50,27 +50,25 @@ public final class FactTest {
         }
     }
 
-    private static void linkOnlyOfSome() {
-        BENCH.sentence("2 link (0 but of CALLING, FIRST, SECOND)");
-        int[] due = {0, 0, 1, 1, 1};
+    /** What is due in states 0 to 4; 0 is due when the device has become idle. */
+    private static void inEachState(int what, int... due) {
         for (int state = 0; state <= 4; state++) {
             BeamHouse x = Bench.inState(state);
             BENCH.due("state", x.of(0, 0), state);
-            BENCH.due("link in state " + state, x.of(0, 2), due[state]);
+            BENCH.due(what + " in state " + state, x.of(0, what), due[state]);
             Bench.leaveState(x, state);
-            BENCH.due("link, idle again", x.of(0, 2), 0);
+            BENCH.due(what + ", idle again", x.of(0, what), 0);
         }
+    }
+
+    private static void linkOnlyOfSome() {
+        BENCH.sentence("2 link (0 but of CALLING, FIRST, SECOND)");
+        inEachState(2, 0, 0, 1, 1, 1);
     }
 
     private static void windowOnlyOfLinked() {
         BENCH.sentence("3 WINDOW (of FIRST, SECOND; 0)");
-        int[] due = {0, 0, 0, 7, 7};
-        for (int state = 0; state <= 4; state++) {
-            BeamHouse x = Bench.inState(state);
-            BENCH.due("window in state " + state, x.of(0, 3), due[state]);
-            Bench.leaveState(x, state);
-            BENCH.due("window, idle again", x.of(0, 3), 0);
-        }
+        inEachState(3, 0, 0, 0, 7, 7);
     }
 
     private static void rowsPartlySent() {
@@ -91,13 +89,7 @@ public final class FactTest {
 
     private static void creditOnlyOfLinked() {
         BENCH.sentence("8 CREDIT it has (of FIRST, SECOND; 0)");
-        int[] due = {0, 0, 0, 4, 4};
-        for (int state = 0; state <= 4; state++) {
-            BeamHouse x = Bench.inState(state);
-            BENCH.due("credit in state " + state, x.of(0, 8), due[state]);
-            Bench.leaveState(x, state);
-            BENCH.due("credit, idle again", x.of(0, 8), 0);
-        }
+        inEachState(8, 0, 0, 0, 4, 4);
     }
 
     private static void owed() {
@@ -152,16 +144,12 @@ public final class FactTest {
 
     private static void turn() {
         BENCH.sentence("15 1 if it has the TURN");
-        int[] due = {0, 0, 0, 1, 0};
+        inEachState(15, 0, 0, 0, 1, 0);
         for (int state = 0; state <= 4; state++) {
             BeamHouse x = Bench.inState(state);
-            BENCH.due("in state " + state, x.of(0, 15), due[state]);
             x.tick(0);
             BENCH.due("behind a tick", x.of(0, 15), 0);
         }
-        BeamHouse x = Bench.inState(3);
-        Bench.leaveState(x, 3);
-        BENCH.due("an idle one has none", x.of(0, 15), 0);
     }
 
     private static void list() {
