@@ -82,6 +82,9 @@ public final class LanguageTest {
             BENCH.due(one + " has at most twenty fields", fields <= 20 ? 1 : 0, 1);
             for (Method method : one.getDeclaredMethods()) {
                 BENCH.due(method + " takes at most seven", method.getParameterCount() <= 7 ? 1 : 0, 1);
+                boolean isOfFace = one == BeamHouse.class && Modifier.isPublic(method.getModifiers());
+                boolean hasItsName = (" " + FACE).contains(" " + method.getName() + "(");
+                BENCH.due(method + " has a name of the face, if it is of it", hasItsName ? 1 : 0, isOfFace ? 1 : 0);
             }
         }
     }
