@@ -9,7 +9,7 @@ public final class HostileTest {
     private static int linked;
 
     public static void main(String[] args) {
-        for (int seed = 0; seed < 300; seed++) {
+        for (int seed = 0; seed < 800; seed++) {
             int first = run(seed);
             BENCH.due("the same calls of " + seed, run(seed), first);
         }
